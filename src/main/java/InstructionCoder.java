@@ -526,20 +526,16 @@ public final class InstructionCoder {
             into.begin(Table.opOf(line), Table.sizeTold(line, added, hasBit(PREFIX_W)),
                     Table.hasCondition(line) ? added : 0);
             into.memory.becomeNone();
-            into.number = 0;
             if (Table.hasForm(line)) {
-                readForm();
+                form = nextOctet();
+                if (formMod() != 3) {
+                    readMemory();
+                }
             }
             for (int k = 0; k < OPERANDS; k++) {
-                readOperand(line, k);
+                readOperand(Table.roleOf(line, k), k);
             }
-        }
-
-        private void readForm() {
-            form = nextOctet();
-            if (formMod() != 3) {
-                readMemory();
-            }
+            readNumber(Table.numberOf(line, into.size));
         }
 
         private void readMemory() {
@@ -564,8 +560,7 @@ public final class InstructionCoder {
             into.memory.become(base, index, scale, (int) nextNumber(width, true));
         }
 
-        private void readOperand(int line, int k) {
-            int role = Table.roleOf(line, k);
+        private void readOperand(int role, int k) {
             switch (role) {
                 case Table.R:
                     readRegister(role, k, high(PREFIX_R) + (form >> 3 & 7));
@@ -586,7 +581,6 @@ public final class InstructionCoder {
                     break;
                 case Table.N:
                     into.setOperand(k, KIND_NUMBER, 0);
-                    into.number = readNumber(Table.numberOf(line, into.size));
                     break;
                 default:
                     break;
@@ -610,11 +604,13 @@ public final class InstructionCoder {
             into.setOperand(k, KIND_REGISTER, register);
         }
 
-        private long readNumber(int number) {
+        private void readNumber(int number) {
             if (number == Table.ONE) {
-                return 1;
+                into.number = 1;
+            } else {
+                int width = Table.numberWidth(number);
+                into.number = nextNumber(width, Table.numberHasSign(number));
             }
-            return nextNumber(Table.numberWidth(number), Table.numberHasSign(number));
         }
 
         private int formMod() {
