@@ -1,13 +1,24 @@
 /** What the tests share: instructions and bytes as texts, and the count of wrong answers. */
 final class Check {
   private static final int FIRST_OPERAND = 3;
+  private static final String HEX = "0123456789ABCDEF";
+  private static final int TOLD_OF_A_SENTENCE = 20;
   private int wrong = 0;
+  private int wrongOfSentence = 0;
+  private String sentence = "";
+
+  /** The document's sentence that the answers from here on hold to, told before each wrong one. */
+  void about(String promiseOrTerm) {
+    sentence = promiseOrTerm + " | ";
+    wrongOfSentence = 0;
+  }
 
   void due(String call, Object got, Object want) {
     boolean same = got == null ? want == null : got.equals(want);
     if (!same) {
       wrong++;
-      if (wrong <= 40) System.out.println(call + " answered " + got + ", due is " + want);
+      wrongOfSentence++;
+      if (wrongOfSentence <= TOLD_OF_A_SENTENCE) System.out.println(sentence + call + " answered " + got + ", due is " + want);
     }
   }
 
@@ -26,7 +37,11 @@ final class Check {
 
   static String hex(int[] row, int count) {
     StringBuilder text = new StringBuilder();
-    for (int i = 0; i < count; i++) text.append(i == 0 ? "" : " ").append(String.format("%02X", row[i]));
+    for (int i = 0; i < count; i++) {
+      if (i > 0) text.append(' ');
+      if (row[i] < 0 || row[i] > 255) text.append('?').append(row[i]);
+      else text.append(HEX.charAt(row[i] >> 4)).append(HEX.charAt(row[i] & 15));
+    }
     return text.toString();
   }
 
@@ -85,15 +100,38 @@ final class Check {
     return "m(" + x.field(9) + "," + x.field(10) + "," + x.field(11) + "," + x.field(12) + ")";
   }
 
+  /** What encode answers, or 0 if it throws: a count that no instruction has. */
+  static int encodedCount(InstructionCoder x) {
+    try {
+      return x.encode();
+    } catch (IllegalArgumentException e) {
+      return 0;
+    }
+  }
+
+  /** What decode answers, or 0 if it throws. */
+  static int decodedCount(InstructionCoder x) {
+    try {
+      return x.decode();
+    } catch (IllegalArgumentException e) {
+      return 0;
+    }
+  }
+
   /** The bytes of encode, or "none" if it throws what the document says. */
   static String encoded(InstructionCoder x) {
     int count;
     try {
       count = x.encode();
     } catch (IllegalArgumentException e) {
-      return "none";
+      return thrown(e);
     }
     return octets(x, count);
+  }
+
+  private static String thrown(IllegalArgumentException e) {
+    // A class below IllegalArgumentException is not the one that the document names.
+    return e.getClass() == IllegalArgumentException.class ? "none" : e.getClass().getName();
   }
 
   static String octets(InstructionCoder x, int count) {
@@ -108,6 +146,16 @@ final class Check {
     return encoded(x);
   }
 
+  /** The fields that decode finds in the bytes of encode; "none" if there are none such. */
+  static String thereAndBack(String text) {
+    String bytes = encode(text);
+    if (bytes.equals("none")) return bytes;
+    int[] row = bytes(bytes);
+    String back = decode(row);
+    String length = row.length + ": ";
+    return back.startsWith(length) ? back.substring(length.length()) : back + " of " + bytes;
+  }
+
   /** "length: fields" of bytes, or "none" if decode throws what the document says. */
   static String decode(int[] row) {
     InstructionCoder x = new InstructionCoder();
@@ -115,12 +163,16 @@ final class Check {
     return decoded(x);
   }
 
+  static String decode(String hex) {
+    return decode(bytes(hex));
+  }
+
   static String decoded(InstructionCoder x) {
     int length;
     try {
       length = x.decode();
     } catch (IllegalArgumentException e) {
-      return "none";
+      return thrown(e);
     }
     return length + ": " + fields(x);
   }
