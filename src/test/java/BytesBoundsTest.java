@@ -52,7 +52,8 @@ public final class BytesBoundsTest {
 
   /** ADDRESS with a PREFIX of these bits, a FORM's mod and low, and what follows; its memory is due. */
   private static void address(int bits, int mod, int low, String rest, String memory) {
-    decodes(hex(0x40 + bits, 0x8D, 64 * mod + low) + rest, "11 " + ((bits & W) != 0 ? 8 : 4) + " 0 r" + ((bits & R) != 0 ? 8 : 0) + " m(" + memory + ")");
+    decodes(hex(0x40 + bits, 0x8D, 64 * mod + low) + rest,
+        "11 " + ((bits & W) != 0 ? 8 : 4) + " 0 r" + ((bits & R) != 0 ? 8 : 0) + " m(" + memory + ")");
   }
 
   /** A displacement's bytes with this mod (and what it is), when the FORM needs none with mod 0. */
@@ -135,7 +136,8 @@ public final class BytesBoundsTest {
       number(head + " 80", -128);
       number(head + " FF", -1);
     }
-    String[] id = {"05", "81 C0", "C7 C0", "B8", "A9", "F7 C0", "69 C0", "68", "E9", "E8", "0F 80", "48 05", "48 81 C0", "48 C7 C0", "48 A9", "48 F7 C0", "48 69 C0"};
+    String[] id = {"05", "81 C0", "C7 C0", "B8", "A9", "F7 C0", "69 C0", "68", "E9", "E8", "0F 80", "48 05", "48 81 C0",
+        "48 C7 C0", "48 A9", "48 F7 C0", "48 69 C0"};
     for (String head : id) {
       number(head + " 00 00 00 00", 0);
       number(head + " 80 00 00 00", 128);
@@ -202,7 +204,9 @@ public final class BytesBoundsTest {
       for (int b : new int[] {0, B}) {
         int high = b == 0 ? 0 : 8;
         address(b, mod, 4, " 0B" + displacement(mod), (high + 3) + ",1,1," + displaced(mod));
-        for (int low : new int[] {0, 1, 2, 3, 6, 7}) address(b, mod, low, displacement(mod), (high + low) + ",-1,1," + displaced(mod));
+        for (int low : new int[] {0, 1, 2, 3, 6, 7}) {
+          address(b, mod, low, displacement(mod), (high + low) + ",-1,1," + displaced(mod));
+        }
       }
     }
     decodes("89 C4", "8 4 0 r4 r0");
@@ -212,8 +216,11 @@ public final class BytesBoundsTest {
   private static void scaleIsAPowerOfTwo() {
     check.about("Terms, FORM: the scale is 2 to the power s");
     for (int s = 0; s < 4; s++) {
-      for (int mod = 0; mod < 3; mod++) address(0, mod, 4, " " + hex(64 * s + 8 + 3) + displacement(mod), "3,1," + new int[] {1, 2, 4, 8}[s] + "," + displaced(mod));
-      address(0, 0, 4, " " + hex(64 * s + 8 + 5) + " 01 00 00 00", "-1,1," + new int[] {1, 2, 4, 8}[s] + ",1");
+      int scale = new int[] {1, 2, 4, 8}[s];
+      for (int mod = 0; mod < 3; mod++) {
+        address(0, mod, 4, " " + hex(64 * s + 8 + 3) + displacement(mod), "3,1," + scale + "," + displaced(mod));
+      }
+      address(0, 0, 4, " " + hex(64 * s + 8 + 5) + " 01 00 00 00", "-1,1," + scale + ",1");
     }
   }
 
@@ -315,9 +322,15 @@ public final class BytesBoundsTest {
 
   private static void displacementOfNone() {
     check.about("Terms, FORM: none else");
-    for (int low : new int[] {0, 1, 2, 3, 6, 7}) check.due("decode", Check.decode(hex(0x8D, low, 0x7F, 1, 1, 1)), "2: 11 4 0 r0 m(" + low + ",-1,1,0)");
-    for (int b : new int[] {0, 1, 2, 3, 4, 6, 7}) check.due("decode", Check.decode(hex(0x8D, 4, 0x20 + b, 0x7F, 1, 1, 1)), "3: 11 4 0 r0 m(" + b + ",-1,1,0)");
-    for (int low = 0; low < 8; low++) check.due("decode", Check.decode(hex(0x8B, 0xC0 + low, 0x7F, 1, 1, 1)), "2: 8 4 0 r0 r" + low);
+    for (int low : new int[] {0, 1, 2, 3, 6, 7}) {
+      check.due("decode", Check.decode(hex(0x8D, low, 0x7F, 1, 1, 1)), "2: 11 4 0 r0 m(" + low + ",-1,1,0)");
+    }
+    for (int b : new int[] {0, 1, 2, 3, 4, 6, 7}) {
+      check.due("decode", Check.decode(hex(0x8D, 4, 0x20 + b, 0x7F, 1, 1, 1)), "3: 11 4 0 r0 m(" + b + ",-1,1,0)");
+    }
+    for (int low = 0; low < 8; low++) {
+      check.due("decode", Check.decode(hex(0x8B, 0xC0 + low, 0x7F, 1, 1, 1)), "2: 8 4 0 r0 r" + low);
+    }
   }
 
   private static void plusRegister() {
@@ -338,8 +351,10 @@ public final class BytesBoundsTest {
 
   private static void sizeV() {
     check.about("Terms, FORM: v is the size 8 with W, else 4");
-    String[] heads = {"8D 03|11 %d 0 r0 m(3,-1,1,0)", "0F B6 C3|12 %d 0 r0 r3", "0F BE C3|13 %d 0 r0 r3", "0F AF C3|23 %d 0 r0 r3", "6B C3 05|23 %d 0 r0 r3 n5",
-      "69 C3 05 00 00 00|23 %d 0 r0 r3 n5", "0F 43 C3|36 %d 3 r0 r3", "99|37 %d 0", "98|38 %d 0", "0F BC C3|44 %d 0 r0 r3", "0F BD C3|45 %d 0 r0 r3",
+    String[] heads = {"8D 03|11 %d 0 r0 m(3,-1,1,0)", "0F B6 C3|12 %d 0 r0 r3", "0F BE C3|13 %d 0 r0 r3",
+        "0F AF C3|23 %d 0 r0 r3", "6B C3 05|23 %d 0 r0 r3 n5",
+      "69 C3 05 00 00 00|23 %d 0 r0 r3 n5", "0F 43 C3|36 %d 3 r0 r3", "99|37 %d 0", "98|38 %d 0", "0F BC C3|44 %d 0 r0 r3",
+      "0F BD C3|45 %d 0 r0 r3",
       "0F CB|46 %d 0 r3", "0F A3 C3|47 %d 0 r3 r0", "0F BA E3 05|47 %d 0 r3 n5", "83 C3 05|0 %d 0 r3 n5"};
     for (String head : heads) {
       String bytes = head.substring(0, head.indexOf('|'));
@@ -366,7 +381,8 @@ public final class BytesBoundsTest {
       check.due("size of " + one, sizeOf(one), 1);
       check.due("size of 48 " + one, sizeOf("48 " + one), 1);
     }
-    for (String two : new String[] {"05 05 00 00 00", "81 C1 05 00 00 00", "C7 C1 05 00 00 00", "A9 05 00 00 00", "F7 C1 05 00 00 00", "F7 D1", "C1 C1 05"}) {
+    for (String two : new String[] {"05 05 00 00 00", "81 C1 05 00 00 00", "C7 C1 05 00 00 00", "A9 05 00 00 00",
+        "F7 C1 05 00 00 00", "F7 D1", "C1 C1 05"}) {
       check.due("size of " + two, sizeOf(two), 4);
       check.due("size of 48 " + two, sizeOf("48 " + two), 8);
     }
@@ -388,9 +404,12 @@ public final class BytesBoundsTest {
   private static void sizeEightWhateverW() {
     check.about("Terms, FORM: 8 is the size 8 whatever W is");
     for (String prefix : new String[] {"", "40 ", "48 "}) {
-      for (String hex : new String[] {"53", "68 01 02 03 04", "6A 01", "FF F3", "FF 33", "5B", "8F C3", "8F 03"}) check.due("size of " + prefix + hex, sizeOf(prefix + hex), 8);
+      for (String hex : new String[] {"53", "68 01 02 03 04", "6A 01", "FF F3", "FF 33", "5B", "8F C3", "8F 03"}) {
+        check.due("size of " + prefix + hex, sizeOf(prefix + hex), 8);
+      }
     }
-    for (String fields : new String[] {"29 8 0 r3", "29 8 0 n1000", "29 8 0 n1", "29 8 0 m(3,-1,1,0)", "30 8 0 r3", "30 8 0 m(3,-1,1,0)"}) {
+    for (String fields : new String[] {"29 8 0 r3", "29 8 0 n1000", "29 8 0 n1", "29 8 0 m(3,-1,1,0)", "30 8 0 r3",
+        "30 8 0 m(3,-1,1,0)"}) {
       check.due("no PREFIX in " + fields, Check.encode(fields).startsWith("4"), false);
     }
   }
@@ -398,7 +417,8 @@ public final class BytesBoundsTest {
   private static void noSizeWhateverW() {
     check.about("Terms, FORM: 0 no size");
     for (String prefix : new String[] {"", "40 ", "48 "}) {
-      for (String hex : new String[] {"E9 01 02 03 04", "EB 01", "FF E3", "FF 23", "E8 01 02 03 04", "FF D3", "C3", "C2 01 02", "0F 80 01 02 03 04", "70 01", "90", "CC", "0F 0B", "0F 05", "C9"}) {
+      for (String hex : new String[] {"E9 01 02 03 04", "EB 01", "FF E3", "FF 23", "E8 01 02 03 04", "FF D3", "C3", "C2 01 02",
+          "0F 80 01 02 03 04", "70 01", "90", "CC", "0F 0B", "0F 05", "C9"}) {
         check.due("size of " + prefix + hex, sizeOf(prefix + hex), 0);
       }
     }

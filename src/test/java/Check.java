@@ -35,6 +35,7 @@ final class Check {
     return row;
   }
 
+  /** The bytes in hexadecimal; what is no byte stands behind a question mark. */
   static String hex(int[] row, int count) {
     StringBuilder text = new StringBuilder();
     for (int i = 0; i < count; i++) {
@@ -149,7 +150,7 @@ final class Check {
   /** The fields that decode finds in the bytes of encode; "none" if there are none such. */
   static String thereAndBack(String text) {
     String bytes = encode(text);
-    if (bytes.equals("none")) return bytes;
+    if (bytes.equals("none") || bytes.contains("?")) return bytes;
     int[] row = bytes(bytes);
     String back = decode(row);
     String length = row.length + ": ";

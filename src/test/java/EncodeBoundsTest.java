@@ -47,7 +47,8 @@ public final class EncodeBoundsTest {
     for (long v : new long[] {first, first + 1, last - 1, last, (first + last) / 2}) {
       check.due("encode and decode of " + fields + " n" + v, Check.thereAndBack(fields + " n" + v), fields + " n" + v);
     }
-    long[] others = {first - 1, last + 1, first - 256, last + 256, first - 65536, last + 65536, first + (1L << 32), last + (1L << 32), first - (1L << 32),
+    long[] others = {first - 1, last + 1, first - 256, last + 256, first - 65536, last + 65536, first + (1L << 32),
+        last + (1L << 32), first - (1L << 32),
       1L << 32, (1L << 32) + 1, 1L << 40, 1L << 63, (1L << 63) + 1, Long.MAX_VALUE, Long.MIN_VALUE};
     for (long v : others) {
       if (v < first || v > last) encodes(fields + " n" + v, "none");
@@ -57,7 +58,9 @@ public final class EncodeBoundsTest {
   private static void numbersOfIb() {
     check.about("Terms, TO ENCODE: a number must be as its ib can tell it");
     for (int op = 0; op <= 9; op++) {
-      for (String m : new String[] {"r0", "r1", "r4", "r15", "m(3,-1,1,0)", "m(16,-1,1,128)"}) numbersAre(op + " 1 0 " + m, -128, 127);
+      for (String m : new String[] {"r0", "r1", "r4", "r15", "m(3,-1,1,0)", "m(16,-1,1,128)"}) {
+        numbersAre(op + " 1 0 " + m, -128, 127);
+      }
     }
   }
 
@@ -69,12 +72,14 @@ public final class EncodeBoundsTest {
         if (op != 8 || m.startsWith("m")) numbersAre(op + " 8 0 " + m, INT_MIN, INT_MAX);
       }
     }
-    for (String fields : new String[] {"23 4 0 r1 r2", "23 8 0 r1 m(3,-1,1,0)", "29 8 0", "31 0 0", "32 0 0", "34 0 0", "34 0 15"}) numbersAre(fields, INT_MIN, INT_MAX);
+    String[] others = {"23 4 0 r1 r2", "23 8 0 r1 m(3,-1,1,0)", "29 8 0", "31 0 0", "32 0 0", "34 0 0", "34 0 15"};
+    for (String fields : others) numbersAre(fields, INT_MIN, INT_MAX);
   }
 
   private static void numbersOfIo() {
     check.about("Terms, TO ENCODE: a number must be as its io can tell it");
-    long[] numbers = {0, 1, -1, 127, 128, INT_MIN, INT_MAX, INT_MIN - 1, INT_MAX + 1, 0xFFFFFFFFL, 1L << 32, Long.MAX_VALUE, Long.MIN_VALUE};
+    long[] numbers = {0, 1, -1, 127, 128, INT_MIN, INT_MAX, INT_MIN - 1, INT_MAX + 1, 0xFFFFFFFFL, 1L << 32, Long.MAX_VALUE,
+        Long.MIN_VALUE};
     for (long v : numbers) {
       for (int register = 0; register < 16; register++) {
         String fields = "8 8 0 r" + register + " n" + v;
@@ -154,10 +159,11 @@ public final class EncodeBoundsTest {
     for (int i = 0; i < digits.length; i++) {
       for (int size : new int[] {1, 4, 8}) {
         for (int register = 0; register < 16; register++) {
-          String fields = 24 + i + " " + size + " 0 r3 r" + register;
-          String w = size == 8 ? "48 " : "";
-          encodes(fields, register == 1 ? w + hex(size == 1 ? 0xD2 : 0xD3, 0xC3 + 8 * digits[i]) : "none");
-          encodes(24 + i + " " + size + " 0 m(3,-1,1,0) r" + register, register == 1 ? w + hex(size == 1 ? 0xD2 : 0xD3, 0x03 + 8 * digits[i]) : "none");
+          String head = (size == 8 ? "48 " : "") + hex(size == 1 ? 0xD2 : 0xD3) + " ";
+          String onRegister = register == 1 ? head + hex(0xC3 + 8 * digits[i]) : "none";
+          String onMemory = register == 1 ? head + hex(0x03 + 8 * digits[i]) : "none";
+          encodes(24 + i + " " + size + " 0 r3 r" + register, onRegister);
+          encodes(24 + i + " " + size + " 0 m(3,-1,1,0) r" + register, onMemory);
         }
       }
     }
@@ -229,7 +235,8 @@ public final class EncodeBoundsTest {
         String due = bits == 0 ? "8D" : hex(0x40 + bits, 0x8D);
         check.due("head of base " + base + ", index " + index, bytes.startsWith(due), true);
         String byByte = Check.encode("8 1 0 m(" + base + "," + index + ",1,0) r1");
-        check.due("head of size 1, base " + base + ", index " + index, byByte.startsWith(bits == 0 ? "88" : hex(0x40 + bits, 0x88)), true);
+        String byByteDue = bits == 0 ? "88" : hex(0x40 + bits, 0x88);
+        check.due("head of size 1, base " + base + ", index " + index, byByte.startsWith(byByteDue), true);
         String wide = Check.encode("11 8 0 r9 m(" + base + "," + index + ",1,0)");
         check.due("head of size 8, base " + base + ", index " + index, wide.startsWith(hex(0x4C + bits, 0x8D)), true);
       }
@@ -242,15 +249,20 @@ public final class EncodeBoundsTest {
 
   private static void wForTheSizeEightOfV() {
     check.about("Terms, TO ENCODE: W for the size 8 of v, and for 14");
-    String[] v = {"0 %d 0 r1 r2", "01 D1", "8 %d 0 r1 m(3,-1,1,0)", "8B 0B", "9 %d 0 r0 n5", "A9 05 00 00 00", "11 %d 0 r1 m(3,-1,1,0)", "8D 0B", "12 %d 0 r1 r2", "0F B6 CA",
-      "13 %d 0 r1 r2", "0F BE CA", "20 %d 0 r1", "F7 F9", "22 %d 0 r1", "FF C9", "23 %d 0 r1 r2", "0F AF CA", "24 %d 0 r1 n2", "C1 C1 02", "36 %d 0 r1 r2", "0F 40 CA", "37 %d 0", "99", "38 %d 0", "98",
-      "44 %d 0 r1 r2", "0F BC CA", "45 %d 0 r1 r2", "0F BD CA", "46 %d 0 r1", "0F C9", "47 %d 0 r1 r2", "0F A3 D1", "48 %d 0 r1 r2", "0F C1 D1", "49 %d 0 r1 r2", "0F B1 D1", "50 %d 0", "A5", "51 %d 0", "AB"};
+    String[] v = {"0 %d 0 r1 r2", "01 D1", "8 %d 0 r1 m(3,-1,1,0)", "8B 0B", "9 %d 0 r0 n5", "A9 05 00 00 00",
+        "11 %d 0 r1 m(3,-1,1,0)", "8D 0B", "12 %d 0 r1 r2", "0F B6 CA",
+      "13 %d 0 r1 r2", "0F BE CA", "20 %d 0 r1", "F7 F9", "22 %d 0 r1", "FF C9", "23 %d 0 r1 r2", "0F AF CA", "24 %d 0 r1 n2",
+      "C1 C1 02", "36 %d 0 r1 r2", "0F 40 CA", "37 %d 0", "99", "38 %d 0", "98",
+      "44 %d 0 r1 r2", "0F BC CA", "45 %d 0 r1 r2", "0F BD CA", "46 %d 0 r1", "0F C9", "47 %d 0 r1 r2", "0F A3 D1",
+      "48 %d 0 r1 r2", "0F C1 D1", "49 %d 0 r1 r2", "0F B1 D1", "50 %d 0", "A5", "51 %d 0", "AB"};
     for (int i = 0; i < v.length; i += 2) {
       encodes(String.format(v[i], 4), v[i + 1]);
       encodes(String.format(v[i], 8), "48 " + v[i + 1]);
     }
-    String[] others = {"14 8 0 r1 r2", "48 63 CA", "29 8 0 r1", "51", "29 8 0 n5", "6A 05", "29 8 0 n128", "68 80 00 00 00", "29 8 0 m(3,-1,1,0)", "FF 33", "30 8 0 r1", "59",
-      "30 8 0 m(3,-1,1,0)", "8F 03", "31 0 0 r1", "FF E1", "31 0 0 m(3,-1,1,0)", "FF 23", "32 0 0 r1", "FF D1", "35 1 0 r1", "0F 90 C1", "0 1 0 r1 r2", "00 D1"};
+    String[] others = {"14 8 0 r1 r2", "48 63 CA", "29 8 0 r1", "51", "29 8 0 n5", "6A 05", "29 8 0 n128", "68 80 00 00 00",
+        "29 8 0 m(3,-1,1,0)", "FF 33", "30 8 0 r1", "59",
+      "30 8 0 m(3,-1,1,0)", "8F 03", "31 0 0 r1", "FF E1", "31 0 0 m(3,-1,1,0)", "FF 23", "32 0 0 r1", "FF D1", "35 1 0 r1",
+      "0F 90 C1", "0 1 0 r1 r2", "00 D1"};
     for (int i = 0; i < others.length; i += 2) encodes(others[i], others[i + 1]);
   }
 

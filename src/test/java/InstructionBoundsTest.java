@@ -1,3 +1,6 @@
+import java.util.HashSet;
+import java.util.Set;
+
 /**
  * Terms: REGISTERS, AN INSTRUCTION and THE MEMORY, and of TO ENCODE that a line must have the op, the
  * size, the condition and operands of just these kinds: a test for each sentence that draws a bound.
@@ -80,9 +83,12 @@ public final class InstructionBoundsTest {
   private static void registersInEveryPlace() {
     check.about("Terms, REGISTERS: 0 .. 15");
     String[] places = {
-      "0 1 0 r%d r0", "0 4 0 r%d r0", "0 8 0 r0 r%d", "0 4 0 m(%d,-1,1,0) r0", "0 4 0 m(0,%d,2,0) r0", "0 4 0 r%d n1", "0 4 0 r%d m(16,-1,1,0)",
-      "8 1 0 r%d n5", "8 4 0 r%d n5", "8 8 0 r%d n2147483648", "12 4 0 r0 r%d", "14 8 0 r%d r0", "15 1 0 r%d", "23 8 0 r0 r%d n1000",
-      "24 4 0 r%d r1", "29 8 0 r%d", "30 8 0 r%d", "31 0 0 r%d", "32 0 0 r%d", "35 1 0 r%d", "36 4 0 r%d r0", "46 4 0 r%d", "47 4 0 r%d n5",
+      "0 1 0 r%d r0", "0 4 0 r%d r0", "0 8 0 r0 r%d", "0 4 0 m(%d,-1,1,0) r0", "0 4 0 m(0,%d,2,0) r0", "0 4 0 r%d n1",
+      "0 4 0 r%d m(16,-1,1,0)",
+      "8 1 0 r%d n5", "8 4 0 r%d n5", "8 8 0 r%d n2147483648", "12 4 0 r0 r%d", "14 8 0 r%d r0", "15 1 0 r%d",
+      "23 8 0 r0 r%d n1000",
+      "24 4 0 r%d r1", "29 8 0 r%d", "30 8 0 r%d", "31 0 0 r%d", "32 0 0 r%d", "35 1 0 r%d", "36 4 0 r%d r0", "46 4 0 r%d",
+      "47 4 0 r%d n5",
     };
     for (String place : places) {
       for (int register = 0; register <= 15; register++) {
@@ -98,14 +104,17 @@ public final class InstructionBoundsTest {
     for (int op = 0; op <= 53; op++) tells(op + " " + someSize(op) + " 0" + operands(kindsOf(op)[0]), true);
     for (int op : new int[] {-1, -2, 54, 55, 64, 127, 128, 256, 256 + 39, 1 << 16, MIN, MIN + 39, MAX}) {
       for (int size : new int[] {0, 1, 4, 8}) {
-        for (String kinds : new String[] {"-", "R", "M", "N", "RR", "MR", "RM", "RN", "MN", "RRN", "RMN"}) tells(op + " " + size + " 0" + operands(kinds), false);
+        for (String kinds : new String[] {"-", "R", "M", "N", "RR", "MR", "RM", "RN", "MN", "RRN", "RMN"}) {
+          tells(op + " " + size + " 0" + operands(kinds), false);
+        }
       }
     }
   }
 
   private static void sizeBounds() {
     check.about("Terms, AN INSTRUCTION: a SIZE (1, 4 or 8; 0 where none is told)");
-    int[] sizes = {0, 1, 2, 3, 4, 5, 6, 7, 8, 9, 10, 12, 15, 16, 32, 64, 256, 257, 260, 264, -1, -4, -8, MIN, MIN + 4, MIN + 8, MAX};
+    int[] sizes = {0, 1, 2, 3, 4, 5, 6, 7, 8, 9, 10, 12, 15, 16, 32, 64, 256, 257, 260, 264, -1, -4, -8, MIN, MIN + 4, MIN + 8,
+        MAX};
     for (int op = 0; op <= 53; op++) {
       for (String kinds : kindsOf(op)) {
         for (int size : sizes) tells(op + " " + size + " 0" + operands(kinds), hasSize(op, size));
@@ -115,7 +124,8 @@ public final class InstructionBoundsTest {
 
   private static void decodedSizes() {
     check.about("Terms, AN INSTRUCTION: the size 0 where none is told");
-    for (String hex : new String[] {"E9 01 02 03 04", "EB 01", "FF E1", "FF 21", "E8 01 02 03 04", "FF D1", "C3", "C2 01 02", "0F 81 01 02 03 04", "71 01", "90", "CC", "0F 0B", "0F 05", "C9"}) {
+    for (String hex : new String[] {"E9 01 02 03 04", "EB 01", "FF E1", "FF 21", "E8 01 02 03 04", "FF D1", "C3", "C2 01 02",
+        "0F 81 01 02 03 04", "71 01", "90", "CC", "0F 0B", "0F 05", "C9"}) {
       for (String prefix : new String[] {"", "40 ", "48 ", "4F "}) {
         InstructionCoder x = new InstructionCoder();
         x.op(8, 4, 0);
@@ -128,7 +138,8 @@ public final class InstructionBoundsTest {
 
   private static void conditionBounds() {
     check.about("Terms, AN INSTRUCTION: a CONDITION (0 .. 15; 0 where none is told)");
-    int[] conditions = {0, 1, 2, 3, 4, 5, 6, 7, 8, 9, 10, 11, 12, 13, 14, 15, 16, 17, 31, 32, 48, 128, 256, 257, -1, -16, MIN, MIN + 1, MAX};
+    int[] conditions = {0, 1, 2, 3, 4, 5, 6, 7, 8, 9, 10, 11, 12, 13, 14, 15, 16, 17, 31, 32, 48, 128, 256, 257, -1, -16, MIN,
+        MIN + 1, MAX};
     for (int op = 0; op <= 53; op++) {
       for (String kinds : kindsOf(op)) {
         for (int condition : conditions) {
@@ -147,7 +158,8 @@ public final class InstructionBoundsTest {
 
   private static void decodedConditions() {
     check.about("Terms, AN INSTRUCTION: the condition 0 where none is told");
-    for (String hex : new String[] {"09 D1", "8F C1", "90", "99", "0F AF C1", "0F CF", "5F", "BF 01 02 03 04", "A5", "F3 AB", "D3 FF"}) {
+    for (String hex : new String[] {"09 D1", "8F C1", "90", "99", "0F AF C1", "0F CF", "5F", "BF 01 02 03 04", "A5", "F3 AB",
+        "D3 FF"}) {
       InstructionCoder x = new InstructionCoder();
       x.op(36, 4, 15);
       Check.feed(x, Check.bytes(hex));
@@ -166,12 +178,12 @@ public final class InstructionBoundsTest {
     check.about("Terms, TO ENCODE: operands of just these kinds");
     String letters = "-RMN";
     for (int op = 0; op <= 53; op++) {
-      java.util.Set<String> known = new java.util.HashSet<>();
-      for (String kinds : kindsOf(op)) known.add((kinds + "---").replaceFirst("^-+$", "---").substring(0, 3));
+      Set<String> known = new HashSet<>();
+      for (String kinds : kindsOf(op)) known.add((kinds + "---").substring(0, 3));
       for (int mix = 0; mix < 64; mix++) {
         String kinds = "" + letters.charAt(mix % 4) + letters.charAt(mix / 4 % 4) + letters.charAt(mix / 16);
-        for (int size : new int[] {0, 1, 4, 8}) {
-          if (hasSize(op, size)) tells(op + " " + size + " 0" + operands(kinds), known.contains(kinds));
+        for (int size : new int[] {0, 1, 2, 4, 8}) {
+          tells(op + " " + size + " 0" + operands(kinds), known.contains(kinds) && hasSize(op, size));
         }
       }
     }
@@ -180,7 +192,9 @@ public final class InstructionBoundsTest {
   private static void oneMemoryAtMost() {
     check.about("Terms, AN INSTRUCTION: the MEMORY, one operand at most");
     for (int op = 0; op <= 53; op++) {
-      for (String operands : new String[] {"MM", "MM-", "M-M", "-MM", "MMM", "RMM", "MMR", "MRM", "MMN"}) tells(op + " " + someSize(op) + " 0" + operands(operands), false);
+      for (String kinds : new String[] {"MM", "M-M", "-MM", "MMM", "RMM", "MMR", "MRM", "MMN"}) {
+        tells(op + " " + someSize(op) + " 0" + operands(kinds), false);
+      }
     }
     InstructionCoder x = new InstructionCoder();
     x.memory(1, -1, 1, 0);
@@ -195,14 +209,17 @@ public final class InstructionBoundsTest {
   private static void oneNumberAtMost() {
     check.about("Terms, AN INSTRUCTION: the NUMBER, one at most");
     for (int op = 0; op <= 53; op++) {
-      for (String operands : new String[] {"NN", "N-N", "-NN", "NNN", "RNN", "MNN", "NNR", "NRN"}) tells(op + " " + someSize(op) + " 0" + operands(operands), false);
+      for (String kinds : new String[] {"NN", "N-N", "-NN", "NNN", "RNN", "MNN", "NNR", "NRN"}) {
+        tells(op + " " + someSize(op) + " 0" + operands(kinds), false);
+      }
     }
   }
 
   private static void decodedRegistersOfOtherKinds() {
     check.about("Terms, AN INSTRUCTION: the register's number of NONE, MEMORY and NUMBER is 0");
     InstructionCoder x = new InstructionCoder();
-    for (String hex : new String[] {"4F 69 7F 01 05 00 00 00", "4F 89 7F 01", "4F C3", "4F 6A 07", "41 FF 77 01", "4D 0F AF FF"}) {
+    for (String hex : new String[] {"4F 69 7F 01 05 00 00 00", "4F 89 7F 01", "4F C3", "4F 6A 07", "41 FF 77 01",
+        "4D 0F AF FF"}) {
       for (int k = 0; k < 3; k++) x.operand(k, 1, 15);
       Check.feed(x, Check.bytes(hex));
       Check.decodedCount(x);
@@ -214,7 +231,12 @@ public final class InstructionBoundsTest {
 
   private static void memoryTells(int base, int index, int scale, int displacement, boolean due) {
     String memory = "m(" + base + "," + index + "," + scale + "," + displacement + ")";
-    for (String fields : new String[] {"11 4 0 r1 " + memory, "0 1 0 " + memory + " r1", "8 8 0 r1 " + memory, "15 4 0 " + memory, "31 0 0 " + memory, "23 8 0 r9 " + memory + " n1"}) tells(fields, due);
+    tells("11 4 0 r1 " + memory, due);
+    tells("0 1 0 " + memory + " r1", due);
+    tells("8 8 0 r1 " + memory, due);
+    tells("15 4 0 " + memory, due);
+    tells("31 0 0 " + memory, due);
+    tells("23 8 0 r9 " + memory + " n1", due);
   }
 
   private static void baseBounds() {
@@ -234,7 +256,9 @@ public final class InstructionBoundsTest {
         for (int scale = 1; scale <= 8; scale *= 2) memoryTells(base, index, scale, 0, index != 4);
       }
       memoryTells(base, -1, 1, 0, true);
-      for (int index : new int[] {-2, -3, -12, 16, 17, 20, 31, 256, 1 << 16, MIN, MIN + 1, MAX}) memoryTells(base, index, 1, 0, false);
+      for (int index : new int[] {-2, -3, -12, 16, 17, 20, 31, 256, 1 << 16, MIN, MIN + 1, MAX}) {
+        memoryTells(base, index, 1, 0, false);
+      }
     }
   }
 
@@ -244,7 +268,9 @@ public final class InstructionBoundsTest {
       boolean due = scale == 1 || scale == 2 || scale == 4 || scale == 8;
       for (int base : new int[] {-1, 0, 5}) memoryTells(base, 1, scale, 0, due);
     }
-    for (int scale : new int[] {32, 64, 255, 256, 257, 258, 260, 264, 1 << 16, MIN, MIN + 1, MIN + 2, MAX}) memoryTells(0, 1, scale, 0, false);
+    for (int scale : new int[] {32, 64, 255, 256, 257, 258, 260, 264, 1 << 16, MIN, MIN + 1, MIN + 2, MAX}) {
+      memoryTells(0, 1, scale, 0, false);
+    }
   }
 
   private static void scaleWithoutAnIndex() {
@@ -275,10 +301,15 @@ public final class InstructionBoundsTest {
 
   private static void decodedWithoutMemoryOrNumber() {
     check.about("Terms, THE MEMORY: what is decoded has -1, -1, 1 and 0 without a memory, the number 0 without a NUMBER");
-    for (String hex : new String[] {"01 D1", "8B C1", "90", "F3 A4", "D3 E0", "0F 94 C0", "53", "FF E1", "48 63 C1", "83 C0 05", "C2 05 00", "D1 E0", "EB 05", "8D 03", "01 4C 93 07", "FF 25 01 00 00 00"}) {
-      InstructionCoder x = new InstructionCoder();
-      x.memory(3, 2, 4, 7);
-      x.number(Long.MIN_VALUE);
+    String[] rows = {"01 D1", "81 84 93 07 00 00 00 05 00 00 00", "8B C1", "90", "01 4C 93 07", "F3 A4", "C1 64 93 07 05",
+        "D3 E0", "0F 94 C0", "FF 64 93 07", "53",
+      "6A 05", "FF E1", "48 63 C1", "FF 25 01 00 00 00", "83 C0 05", "8D 4C 93 07", "C2 05 00", "C3", "8D 44 93 07", "D1 E0",
+      "C9", "8D 4C 93 07", "EB 05", "98"};
+    // The object is the same throughout, so that a memory or a number decoded before could stay.
+    InstructionCoder x = new InstructionCoder();
+    x.memory(3, 2, 4, 7);
+    x.number(Long.MIN_VALUE);
+    for (String hex : rows) {
       Check.feed(x, Check.bytes(hex));
       Check.decodedCount(x);
       boolean memory = false;

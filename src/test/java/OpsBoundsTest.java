@@ -4,12 +4,14 @@ import java.util.TreeSet;
 /** Terms: OPS, "A register of size 1 ..", and TO DECODE: which bytes are an instruction, which are none. */
 public final class OpsBoundsTest {
   /** The first bytes of the table's opcodes, and the second ones behind 0F, as the document has them. */
-  private static final String ONE_BYTE = "00-05 08-0D 10-15 18-1D 20-25 28-2D 30-35 38-3D 50-5F 63 68-6B 70-81 83-8B 8D 8F-90 98-99 A4-A5 A8-AB B0-C3 C6-C7 C9 CC D0-D3 E8-E9 EB F6-F7 FE-FF";
+  private static final String ONE_BYTE = "00-05 08-0D 10-15 18-1D 20-25 28-2D 30-35 38-3D 50-5F 63 68-6B 70-81 83-8B 8D 8F-90"
+      + " 98-99 A4-A5 A8-AB B0-C3 C6-C7 C9 CC D0-D3 E8-E9 EB F6-F7 FE-FF";
   private static final String TWO_BYTES = "05 0B 40-4F 80-9F A3 AF-B1 B6 BA BC-BE C0-C1 C8-CF";
 
   /** The opcodes with /n, and their n. */
   private static final String[] DIGITS = {
-    "80 01234567", "81 01234567", "83 01234567", "8F 0", "C0 01457", "C1 01457", "C6 0", "C7 0", "D0 01457", "D1 01457", "D2 01457", "D3 01457",
+    "80 01234567", "81 01234567", "83 01234567", "8F 0", "C0 01457", "C1 01457", "C6 0", "C7 0", "D0 01457", "D1 01457",
+    "D2 01457", "D3 01457",
     "F6 0234567", "F7 0234567", "FE 01", "FF 01246", "0F BA 4",
   };
 
@@ -79,7 +81,8 @@ public final class OpsBoundsTest {
         boolean lacksPrefix = opcode >= 0xB4 && opcode <= 0xB7 && prefix == 0;
         // 0F, 40 .. 4F and F3 are no opcodes of their own.
         boolean other = opcode == 0x0F || opcode == 0xF3 || opcode >= 0x40 && opcode <= 0x4F;
-        if (!other) check.due("opcode " + hex(prefix, opcode), isSomeInstruction(prefix, hex(opcode)), one.contains(opcode) && !lacksW && !lacksPrefix);
+        boolean due = one.contains(opcode) && !lacksW && !lacksPrefix;
+        if (!other) check.due("opcode " + hex(prefix, opcode), isSomeInstruction(prefix, hex(opcode)), due);
         check.due("opcode " + hex(prefix, 0x0F, opcode), isSomeInstruction(prefix, "0F " + hex(opcode)), two.contains(opcode));
       }
     }
@@ -193,7 +196,8 @@ public final class OpsBoundsTest {
     for (int i = 0; i < digits.length; i++) {
       // The byte behind it is no number of it.
       check.due("decode", Check.decode(hex(0xD0, 0xC3 + 8 * digits[i], 9)), "2: " + (24 + i) + " 1 0 r3 n1");
-      check.due("decode", Check.decode(hex(0x48, 0xD1, 0x43 + 8 * digits[i], 0x80, 9)), "4: " + (24 + i) + " 8 0 m(3,-1,1,-128) n1");
+      check.due("decode", Check.decode(hex(0x48, 0xD1, 0x43 + 8 * digits[i], 0x80, 9)),
+          "4: " + (24 + i) + " 8 0 m(3,-1,1,-128) n1");
     }
   }
 
@@ -245,12 +249,15 @@ public final class OpsBoundsTest {
 
   /** Bytes with a register of size 1: in a FORM as r, as m, as m with /2 (n), or added to the opcode B0. */
   private static final String[] SIZE_ONE = {
-    "00 r", "00 m", "02 r", "02 m", "38 r", "3A m", "80 m 05", "80 n 05", "88 r", "88 m", "8A r", "8A m", "C6 m 05", "84 r", "84 m", "86 r", "86 m", "F6 m 05",
-    "F6 n", "FE m", "C0 m 05", "D0 m", "D2 m", "0F 90 m", "0F 9F m", "0F C0 r", "0F C0 m", "0F B0 r", "0F B0 m", "B0+ 05", "0F B6 m", "0F BE m",
+    "00 r", "00 m", "02 r", "02 m", "38 r", "3A m", "80 m 05", "80 n 05", "88 r", "88 m", "8A r", "8A m", "C6 m 05", "84 r",
+    "84 m", "86 r", "86 m", "F6 m 05",
+    "F6 n", "FE m", "C0 m 05", "D0 m", "D2 m", "0F 90 m", "0F 9F m", "0F C0 r", "0F C0 m", "0F B0 r", "0F B0 m", "B0+ 05",
+    "0F B6 m", "0F BE m",
   };
 
   private static String withRegister(String pattern, int low) {
-    return pattern.replace("B0+", hex(0xB0 + low)).replace("r", hex(0xC0 + 8 * low)).replace("m", hex(0xC0 + low)).replace("n", hex(0xD0 + low));
+    String told = pattern.replace("B0+", hex(0xB0 + low)).replace("r", hex(0xC0 + 8 * low));
+    return told.replace("m", hex(0xC0 + low)).replace("n", hex(0xD0 + low));
   }
 
   private static void registersOfSizeOneNeedAPrefix() {
@@ -262,7 +269,8 @@ public final class OpsBoundsTest {
         for (int prefix = 0x40; prefix <= 0x4F; prefix++) {
           boolean high = pattern.contains("r") ? (prefix & 4) != 0 : (prefix & 1) != 0;
           String told = Check.decode(hex(prefix) + " " + hex) + " ";
-          check.due("register in " + hex(prefix) + " " + hex + ": " + told, told.contains(" r" + (high ? 8 + low : low) + " "), true);
+          String register = " r" + (high ? 8 + low : low) + " ";
+          check.due(register + "in " + hex(prefix) + " " + hex + ", which is " + told, told.contains(register), true);
         }
       }
     }
@@ -338,10 +346,16 @@ public final class OpsBoundsTest {
       int v = prefix >= 0x48 ? 8 : 4;
       int r = (prefix & 4) != 0 ? 8 : 0;
       int b = (prefix & 1) != 0 ? 8 : 0;
-      String[] none = {"C3|33 0 0", "90|39 0 0", "CC|40 0 0", "0F 0B|41 0 0", "0F 05|42 0 0", "C9|43 0 0", "C2 01 02|33 0 0 n513", "EB 05|31 0 0 n5", "E9 05 00 00 00|31 0 0 n5",
-        "E8 05 00 00 00|32 0 0 n5", "75 05|34 0 5 n5", "0F 85 05 00 00 00|34 0 5 n5", "6A 05|29 8 0 n5", "68 05 00 00 00|29 8 0 n5", "A4|50 1 0", "AA|51 1 0", "04 05|0 1 0 r0 n5",
-        "FF 25 05 00 00 00|31 0 0 m(16,-1,1,5)", "FF 35 05 00 00 00|29 8 0 m(16,-1,1,5)", "80 0D 05 00 00 00 07|1 1 0 m(16,-1,1,5) n7"};
-      for (String line : none) decodes(hex(prefix) + " " + line.substring(0, line.indexOf('|')), line.substring(line.indexOf('|') + 1));
+      String[] none = {"C3|33 0 0", "90|39 0 0", "CC|40 0 0", "0F 0B|41 0 0", "0F 05|42 0 0", "C9|43 0 0", "C2 01 02|33 0 0 n513",
+          "EB 05|31 0 0 n5", "E9 05 00 00 00|31 0 0 n5",
+        "E8 05 00 00 00|32 0 0 n5", "75 05|34 0 5 n5", "0F 85 05 00 00 00|34 0 5 n5", "6A 05|29 8 0 n5",
+        "68 05 00 00 00|29 8 0 n5", "A4|50 1 0", "AA|51 1 0", "04 05|0 1 0 r0 n5",
+        "FF 25 05 00 00 00|31 0 0 m(16,-1,1,5)", "FF 35 05 00 00 00|29 8 0 m(16,-1,1,5)",
+        "80 0D 05 00 00 00 07|1 1 0 m(16,-1,1,5) n7"};
+      for (String line : none) {
+        int bar = line.indexOf('|');
+        decodes(hex(prefix) + " " + line.substring(0, bar), line.substring(bar + 1));
+      }
       decodes(hex(prefix, 0x99), "37 " + v + " 0");
       decodes(hex(prefix, 0xA5), "50 " + v + " 0");
       decodes(hex(prefix, 0x53), "29 8 0 r" + (b + 3));

@@ -201,7 +201,8 @@ public final class PromiseBoundsTest {
 
   private static void operandRefusedChangesNothing() {
     check.about("Promise 3: else false, changing nothing");
-    int[][] wrong = {{3, 1, 0}, {-1, 0, 0}, {0, 4, 0}, {0, -1, 0}, {0, 1, 16}, {0, 1, -1}, {1, 0, 1}, {1, 2, 1}, {1, 3, 1}, {2, 5, 0}};
+    int[][] wrong = {{3, 1, 0}, {-1, 0, 0}, {0, 4, 0}, {0, -1, 0}, {0, 1, 16}, {0, 1, -1}, {1, 0, 1}, {1, 2, 1}, {1, 3, 1},
+        {2, 5, 0}};
     for (int[] w : wrong) {
       InstructionCoder x = full();
       check.due("operand(" + w[0] + ", " + w[1] + ", " + w[2] + ")", x.operand(w[0], w[1], w[2]), false);
@@ -280,7 +281,8 @@ public final class PromiseBoundsTest {
   private static void encodeAnswersHowMany() {
     check.about("Promise 6: how many, 1 .. 15");
     String[] byLength = {
-      "39 0 0", "0 4 0 r1 r2", "0 4 0 r1 n1", "0 8 0 r1 n1", "0 4 0 r0 n128", "0 4 0 r1 n128", "0 8 0 r1 n128", "0 8 0 m(1,-1,1,1) n128",
+      "39 0 0", "0 4 0 r1 r2", "0 4 0 r1 n1", "0 8 0 r1 n1", "0 4 0 r0 n128", "0 4 0 r1 n128", "0 8 0 r1 n128",
+      "0 8 0 m(1,-1,1,1) n128",
       "0 8 0 m(4,-1,1,1) n128", "8 8 0 r1 n2147483648", "0 8 0 m(1,-1,1,128) n128", "0 8 0 m(4,-1,1,128) n128",
     };
     for (int i = 0; i < byLength.length; i++) {
@@ -294,7 +296,8 @@ public final class PromiseBoundsTest {
 
   private static void encodeRefusedKeepsBytesAndFields() {
     check.about("Promise 6: IllegalArgumentException: there are none such; bytes and fields stay");
-    String[] wrong = {"54 0 0", "-1 0 0", "0 2 0 r1 r2", "0 4 1 r1 r2", "0 4 0 r1", "0 4 0 r1 n2147483648", "11 4 0 r1 m(3,4,1,0)", "8 4 0 m(1,-1,1,0) m(1,-1,1,0)"};
+    String[] wrong = {"54 0 0", "-1 0 0", "0 2 0 r1 r2", "0 4 1 r1 r2", "0 4 0 r1", "0 4 0 r1 n2147483648",
+        "11 4 0 r1 m(3,4,1,0)", "8 4 0 m(1,-1,1,0) m(1,-1,1,0)"};
     for (String fields : wrong) {
       InstructionCoder x = full();
       Check.set(x, fields);
@@ -322,7 +325,9 @@ public final class PromiseBoundsTest {
     InstructionCoder x = full();
     check.due("octet(0)", x.octet(0), 0x4C);
     check.due("octet(5)", x.octet(5), 7);
-    for (int i : new int[] {-1, -2, 6, 7, 14, 15, 16, 17, 256, 1 << 30, MAX, MAX - 1, MIN, MIN + 1}) check.due("octet(" + i + ")", x.octet(i), -1);
+    for (int i : new int[] {-1, -2, 6, 7, 14, 15, 16, 17, 256, 1 << 30, MAX, MAX - 1, MIN, MIN + 1}) {
+      check.due("octet(" + i + ")", x.octet(i), -1);
+    }
     isStillFull("octet", x);
   }
 
@@ -433,11 +438,16 @@ public final class PromiseBoundsTest {
   private static void decodeOfTooFewBytes() {
     check.about("Promise 9: or are too few; the fields stay");
     String[] whole = {
-      "F3 48 A5", "0F 0B", "48 0F AF C1", "4F 8D 84 88 01 02 03 04", "8D 44 24 01", "41 8D 05 01 02 03 04", "8D 04 25 01 02 03 04",
-      "48 81 84 88 01 02 03 04 05 06 07 08", "48 B8 01 02 03 04 05 06 07 08", "B8 01 02 03 04", "40 B4 01", "C2 01 02", "68 01 02 03 04",
-      "6A 01", "69 C0 01 02 03 04", "6B 45 01 02", "E8 01 02 03 04", "E9 01 02 03 04", "EB 01", "70 01", "0F 80 01 02 03 04", "0F 90 45 01",
-      "0F BA E0 01", "C1 E0 01", "D1 24 24", "05 01 02 03 04", "04 01", "80 C0 01", "83 C0 01", "F6 00 01", "F7 45 01 02 03 04 05", "49 63 45 01",
-      "0F CB", "40 0F C0 64 24 01", "FF 35 01 02 03 04", "8F 45 01", "C7 84 24 01 02 03 04 05 06 07 08", "A9 01 02 03 04", "41 53", "48 99",
+      "F3 48 A5", "0F 0B", "48 0F AF C1", "4F 8D 84 88 01 02 03 04", "8D 44 24 01", "41 8D 05 01 02 03 04",
+      "8D 04 25 01 02 03 04",
+      "48 81 84 88 01 02 03 04 05 06 07 08", "48 B8 01 02 03 04 05 06 07 08", "B8 01 02 03 04", "40 B4 01", "C2 01 02",
+      "68 01 02 03 04",
+      "6A 01", "69 C0 01 02 03 04", "6B 45 01 02", "E8 01 02 03 04", "E9 01 02 03 04", "EB 01", "70 01", "0F 80 01 02 03 04",
+      "0F 90 45 01",
+      "0F BA E0 01", "C1 E0 01", "D1 24 24", "05 01 02 03 04", "04 01", "80 C0 01", "83 C0 01", "F6 00 01",
+      "F7 45 01 02 03 04 05", "49 63 45 01",
+      "0F CB", "40 0F C0 64 24 01", "FF 35 01 02 03 04", "8F 45 01", "C7 84 24 01 02 03 04 05 06 07 08", "A9 01 02 03 04",
+      "41 53", "48 99",
     };
     for (String hex : whole) {
       int[] row = Check.bytes(hex);
@@ -461,7 +471,8 @@ public final class PromiseBoundsTest {
 
   private static void decodeOfMoreBytesThanTheInstruction() {
     check.about("Promise 9: the bytes begin with an instruction: how many bytes it has");
-    String[] whole = {"90", "0F 0B", "4D 8D 3F", "48 83 C0 7F", "05 FF FF FF FF", "0F 8F FF FF FF FF", "48 B8 FF FF FF FF FF FF FF FF", "49 81 84 FF FF FF FF FF FF FF FF FF"};
+    String[] whole = {"90", "0F 0B", "4D 8D 3F", "48 83 C0 7F", "05 FF FF FF FF", "0F 8F FF FF FF FF",
+        "48 B8 FF FF FF FF FF FF FF FF", "49 81 84 FF FF FF FF FF FF FF FF FF"};
     for (String hex : whole) {
       String alone = Check.decode(hex);
       int length = Check.bytes(hex).length;
@@ -476,7 +487,8 @@ public final class PromiseBoundsTest {
 
   private static void decodeLeavesNoFedBytes() {
     check.about("Promise 9: the bytes that were fed are none then, in any case");
-    for (String hex : new String[] {"90", "90 0F", "90 90", "06", "06 90", "0F", "48 81", "F3 90 90", "00 00 00 00 00 00 00 00 00 00 00 00 00 00 00 00"}) {
+    for (String hex : new String[] {"90", "90 0F", "90 90", "06", "06 90", "0F", "48 81", "F3 90 90",
+        "00 00 00 00 00 00 00 00 00 00 00 00 00 00 00 00"}) {
       InstructionCoder x = new InstructionCoder();
       Check.feed(x, Check.bytes(hex));
       Check.decoded(x);
@@ -492,7 +504,8 @@ public final class PromiseBoundsTest {
   private static void decodeRefusedKeepsTheFields() {
     check.about("Promise 9: they begin with none; the fields stay");
     // Those at the end fail late, when much of the instruction has been read.
-    for (String hex : new String[] {"06", "66 90", "F3 90", "48 48 90", "0F FF", "63 C1", "8D C0", "FF FF", "88 E0", "8A 64 24", "48 8D C1 01", "0F BA C0 01", "80 C4 01", "B7 01", "0F B6 C7"}) isRefused(hex);
+    for (String hex : new String[] {"06", "66 90", "F3 90", "48 48 90", "0F FF", "63 C1", "8D C0", "FF FF", "88 E0", "8A 64 24",
+        "48 8D C1 01", "0F BA C0 01", "80 C4 01", "B7 01", "0F B6 C7"}) isRefused(hex);
   }
 
   private static void decodeKeepsTheBytesOfEncode() {
@@ -529,7 +542,8 @@ public final class PromiseBoundsTest {
   private static void fieldOfAnotherNumberIsZero() {
     check.about("Promise 10: 0 for another what");
     InstructionCoder x = full();
-    for (int what : new int[] {-1, -2, -3, 13, 14, 15, 16, 100, 256, 257, 265, 1 << 16, 1 << 30, MAX, MAX - 1, MIN, MIN + 1, MIN + 9}) {
+    for (int what : new int[] {-1, -2, -3, 13, 14, 15, 16, 100, 256, 257, 265, 1 << 16, 1 << 30, MAX, MAX - 1, MIN, MIN + 1,
+        MIN + 9}) {
       check.due("field(" + what + ")", x.field(what), 0);
     }
     isStillFull("field", x);
