@@ -15,12 +15,21 @@ public final class OpsBoundsTest {
     "F6 0234567", "F7 0234567", "FE 01", "FF 01246", "0F BA 4",
   };
 
+  /** The lines "m r" and "r m" with the size v: the op, and its opcode (op 36 with the condition 0). */
+  private static final String[] M_R = {
+    "0 01", "1 09", "2 11", "3 19", "4 21", "5 29", "6 31", "7 39", "8 89", "9 85", "10 87", "47 0F A3", "48 0F C1", "49 0F B1",
+  };
+  private static final String[] R_M = {
+    "0 03", "1 0B", "2 13", "3 1B", "4 23", "5 2B", "6 33", "7 3B", "8 8B", "23 0F AF", "36 0F 40", "44 0F BC", "45 0F BD",
+  };
+
   private static final Check check = new Check();
 
   public static void main(String[] args) {
     opcodesOfTheTable();
     digitsOfTheTable();
     linesOfZeroToSeven();
+    linesWithRAndM();
     smallNumberForVAlone();
     moveByPlusRegister();
     smallOperandOfZeroAndSign();
@@ -118,6 +127,28 @@ public final class OpsBoundsTest {
       decodes(hex(0x81, 0xC1 + 8 * n, 0x80, 0, 0, 0), n + " 4 0 r1 n128");
       isNone(hex(8 * n + 6, 0xC8, 0, 0, 0, 0));
       if (n != 1) isNone(hex(8 * n + 7, 0xC8, 0, 0, 0, 0));
+    }
+  }
+
+  /** Bytes of a line of M_R or R_M with a FORM of two registers, and the fields that are due. */
+  private static void twoRegisters(String line, boolean mFirst, String prefix, int r, int m) {
+    String op = line.substring(0, line.indexOf(' '));
+    String opcode = line.substring(line.indexOf(' ') + 1);
+    String size = prefix.compareTo("48") >= 0 ? " 8" : " 4";
+    String operands = mFirst ? " r" + m + " r" + r : " r" + r + " r" + m;
+    decodes(prefix + opcode + " " + hex(0xC0 + 8 * (r % 8) + m % 8), op + size + " 0" + operands);
+  }
+
+  private static void linesWithRAndM() {
+    check.about("Terms, OPS: m r and r m: the operands in their order, r with any reg, m with any low");
+    for (int r = 0; r < 16; r++) {
+      for (int m = 0; m < 16; m++) {
+        int bits = (r > 7 ? 4 : 0) + (m > 7 ? 1 : 0);
+        for (String prefix : new String[] {hex(0x40 + bits) + " ", hex(0x48 + bits) + " "}) {
+          for (String line : M_R) twoRegisters(line, true, prefix, r, m);
+          for (String line : R_M) twoRegisters(line, false, prefix, r, m);
+        }
+      }
     }
   }
 
@@ -286,8 +317,15 @@ public final class OpsBoundsTest {
 
   private static void otherRegistersNeedNone() {
     check.about("Terms, OPS: registers of other sizes with a number 4 .. 7 need no PREFIX");
+    for (int r = 0; r < 8; r++) {
+      for (int m = 0; m < 8; m++) {
+        for (String line : M_R) twoRegisters(line, true, "", r, m);
+        for (String line : R_M) twoRegisters(line, false, "", r, m);
+        decodes(hex(0x69, 0xC0 + 8 * r + m, 5, 0, 0, 0), "23 4 0 r" + r + " r" + m + " n5");
+        decodes(hex(0x6B, 0xC0 + 8 * r + m, 5), "23 4 0 r" + r + " r" + m + " n5");
+      }
+    }
     for (int low = 4; low < 8; low++) {
-      decodes(hex(0x01, 0xC0 + 9 * low), "0 4 0 r" + low + " r" + low);
       decodes(hex(0x81, 0xC0 + low, 5, 0, 0, 0), "0 4 0 r" + low + " n5");
       decodes(hex(0xB8 + low, 5, 0, 0, 0), "8 4 0 r" + low + " n5");
       decodes(hex(0x50 + low), "29 8 0 r" + low);
@@ -296,9 +334,7 @@ public final class OpsBoundsTest {
       decodes(hex(0xFF, 0xD0 + low), "32 0 0 r" + low);
       decodes(hex(0xF7, 0xD0 + low), "15 4 0 r" + low);
       decodes(hex(0xD3, 0xC0 + low), "24 4 0 r" + low + " r1");
-      decodes(hex(0x0F, 0x40, 0xC0 + 9 * low), "36 4 0 r" + low + " r" + low);
       decodes(hex(0x0F, 0xC8 + low), "46 4 0 r" + low);
-      decodes(hex(0x0F, 0xC1, 0xC0 + 9 * low), "48 4 0 r" + low + " r" + low);
     }
   }
 
